@@ -54,7 +54,6 @@ public final class SealwrightVault {
     private final Keyring keyring = new Keyring();
     private final Engines engines = new Engines();
     private final Rights rights = new Rights();
-    private final People people = new People();
     private final Tokens tokens = new Tokens();
     private final Leases leases = new Leases();
     private final Store store = new Store();
@@ -167,35 +166,35 @@ public final class SealwrightVault {
     }
 
     public int setPolicies(int what, int who, int policies) throws IndexOutOfBoundsException, IllegalArgumentException {
-        boolean isKnownKind = isWithin(what, People.OF_METHOD, People.OF_GROUP);
-        demandIndex(!isKnownKind || isIndex(who, People.countOf(what)));
+        boolean isKnownKind = isWithin(what, Rights.OF_METHOD, Rights.OF_GROUP);
+        demandIndex(!isKnownKind || isIndex(who, Rights.countOf(what)));
         demandArgument(isKnownKind && isWithin(policies, 0, ALL_POLICIES));
-        return people.givePolicies(what, who, policies);
+        return rights.givePolicies(what, who, policies);
     }
 
     public int alias(int method, int name, int person) throws IndexOutOfBoundsException {
         demandIndex(isIndex(method, METHODS) && isIndex(name, NAMES) && isWithin(person, NONE, PEOPLE - 1));
-        return people.lead(method, name, person);
+        return rights.lead(method, name, person);
     }
 
     public int merge(int person, int into) throws IndexOutOfBoundsException, IllegalArgumentException {
         demandIndex(isIndex(person, PEOPLE) && isIndex(into, PEOPLE));
         demandArgument(person != into);
         tokens.handOver(person, into);
-        people.replaceMember(person, into);
-        return people.leadElsewhere(person, into);
+        rights.replaceMember(person, into);
+        return rights.leadElsewhere(person, into);
     }
 
     public boolean member(int group, boolean isGroup, int member, boolean is) throws IndexOutOfBoundsException {
         demandIndex(isIndex(group, GROUPS) && isIndex(member, isGroup ? GROUPS : PEOPLE));
-        return isGroup ? people.setGroupIn(group, member, is) : people.setPersonIn(group, member, is);
+        return isGroup ? rights.setGroupIn(group, member, is) : rights.setPersonIn(group, member, is);
     }
 
     // ---- tokens
 
     public int login(int method, int name) throws IndexOutOfBoundsException {
         demandIndex(isIndex(method, METHODS) && isIndex(name, NAMES));
-        int person = people.personOf(method, name);
+        int person = rights.personOf(method, name);
         if (!seal.isOpened()) {
             return SEALED;
         }
@@ -205,7 +204,7 @@ public final class SealwrightVault {
         if (tokens.isFull()) {
             return FULL;
         }
-        int made = tokens.add(NONE, SERVICE, person, people.policiesOfMethod(method));
+        int made = tokens.add(NONE, SERVICE, person, rights.policiesOfMethod(method));
         tokens.bound(made, hour, LOGIN_HOURS, LOGIN_MOST);
         tokens.limit(made, NONE, ALL_PLACES, false);
         return made;
@@ -538,8 +537,7 @@ public final class SealwrightVault {
     }
 
     private int rightsAt(int token, int path) {
-        int person = tokens.personOf(token);
-        return rights.at(tokens.policiesOf(token) | people.policiesOfPerson(person), person, path);
+        return rights.at(tokens.policiesOf(token), tokens.personOf(token), path);
     }
 
     private int refusalOfChild(int parent, int policies) {
@@ -939,8 +937,10 @@ public final class SealwrightVault {
         }
     }
 
-    /** The rules of the policies, and what they let be done at a path. */
+    /** Rules of policies, and who has them: people, by their logins and groups. Sets of policies and members are bits. */
     private static final class Rights {
+        static final int OF_METHOD = 0, OF_PERSON = 1, OF_GROUP = 2;
+
         private static final int MOST_RULES = 5;
         /** Of a part, from the most exact on; so a pattern's vagueness is a number of three digits to the base 4. */
         private static final int BY_SEGMENT = 0, BY_SELF = 1, BY_ANY = 2, BY_REST = 3, MISFIT = 4;
@@ -950,8 +950,17 @@ public final class SealwrightVault {
         private final int[] parts = new int[POLICIES * MOST_RULES * PATH_PARTS];
         private final int[] powersOf = new int[POLICIES * MOST_RULES];
         private final int[] approvalsOf = new int[POLICIES * MOST_RULES];
+        private final int[] personOfLogin = new int[METHODS * NAMES];
+        private final int[] ofMethods = new int[METHODS];
+        private final int[] ofPeople = new int[PEOPLE];
+        private final int[] ofGroups = new int[GROUPS];
+        private final int[] peopleIn = new int[GROUPS];
+        private final int[] groupsIn = new int[GROUPS];
 
         Rights() {
+            for (int i = 0; i < personOfLogin.length; i++) {
+                personOfLogin[i] = NONE;
+            }
         }
 
         boolean hasRoom(int policy) {
@@ -975,8 +984,9 @@ public final class SealwrightVault {
             return before;
         }
 
-        /** The powers and 16 times the approvals, by the most exact rules of the policies that fit. */
-        int at(int policies, int person, int path) {
+        /** The powers and 16 times the approvals, by the most exact rules that fit. */
+        int at(int ownPolicies, int person, int path) {
+            int policies = ownPolicies | policiesOfPerson(person);
             int least = VAGUER_THAN_ALL - 1;
             int powers = 0;
             int approvals = 0;
@@ -1037,24 +1047,6 @@ public final class SealwrightVault {
             }
             return part == 1 ? path / PATHS_OF_SECOND % SEGMENTS : path % SEGMENTS;
         }
-    }
-
-    /** Logins, members of groups, and the policies of methods, people and groups; sets are bits. */
-    private static final class People {
-        static final int OF_METHOD = 0, OF_PERSON = 1, OF_GROUP = 2;
-
-        private final int[] personOfLogin = new int[METHODS * NAMES];
-        private final int[] ofMethods = new int[METHODS];
-        private final int[] ofPeople = new int[PEOPLE];
-        private final int[] ofGroups = new int[GROUPS];
-        private final int[] peopleIn = new int[GROUPS];
-        private final int[] groupsIn = new int[GROUPS];
-
-        People() {
-            for (int i = 0; i < personOfLogin.length; i++) {
-                personOfLogin[i] = NONE;
-            }
-        }
 
         static int countOf(int what) {
             if (what == OF_METHOD) {
@@ -1110,7 +1102,7 @@ public final class SealwrightVault {
         }
 
         /** Of the person and of all groups in which it is; none for nobody. */
-        int policiesOfPerson(int person) {
+        private int policiesOfPerson(int person) {
             if (person < 0 || person >= PEOPLE) {
                 return 0;
             }
