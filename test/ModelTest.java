@@ -24,13 +24,21 @@ public final class ModelTest {
         "giveAnew: share value", "setBounds: bound bound", "turn:", "retire: key", "rewrap: few", "key:", "mount: first engine ofEngine",
         "setQuota: first quota", "rule: policy part part part powers approve", "clear: policy", "setPolicies: what who set",
         "alias: method name personOrNone", "merge: person person", "member: group truth member truth", "login: method name",
-        "token: tokenOrNone kind set hours most uses places truth", "renewToken: token hours", "revokeToken: token", "uses: token",
+        "token: tokenOrNone kind set long most uses places truth", "renewToken: token long", "revokeToken: token", "uses: token",
         "lives: token", "may: token path", "read: token place path version", "write: token place path number expected",
         "erase: token place path version state", "keyOf: path version", "setSystem: system how", "issue: token place path hours most",
         "renew: lease hours", "revoke: first secondOrNone", "stateOf: lease", "endOf: lease", "credentials: system",
         "credentialsAnew: system", "wrap: token place path version", "open: wrap", "approve: token place case", "takeUp: token place case",
         "cases:", "certify: token place path hours", "revokeCertificate: certificate", "publish:", "isGood: certificate",
         "issuerOf: certificate", "setSink: sink truth seldom salt", "hash: sink", "ship: few", "farRead: token path version", "pass: time");
+
+    /** The least and the greatest that a call takes; of hours and counts those that most calls take. */
+    private static final Map<String, int[]> ENDS = ends(
+        "seed 0 65535", "shares 1 6", "threshold 1 6", "share 1 6", "value 0 256", "bound 1 1000", "few 1 50", "first 0 5", "engine -1 2",
+        "ofEngine 0 2", "quota 0 100", "policy 0 7", "part 0 8", "powers 0 15", "approve 0 2", "what 0 2", "who 0 7", "set 0 255",
+        "method 0 2", "name 0 5", "personOrNone -1 7", "person 0 7", "group 0 3", "member 0 7", "kind 0 2", "hours 1 50", "long 1 100", "most 1 200",
+        "uses 1 20", "places 1 15", "path 0 215", "place 0 3", "version 0 9999", "number 0 9999", "expected -1 9999", "state 0 2",
+        "system 0 2", "how 0 2", "secondOrNone -1 5", "salt 1 1000", "sink 0 2", "time 1 50");
 
     /** The calls on which a run leans. */
     private static final String[] LEANINGS = {
@@ -43,7 +51,7 @@ public final class ModelTest {
         "read wrap open approve approve takeUp takeUp cases merge rule write",
         "certify certify revokeCertificate publish isGood issuerOf pass",
         "setSink hash read write erase issue certify wrap approve setQuota",
-        "mount mount read write issue certify revoke stateOf takeUp ship farRead"};
+        "mount mount read write write issue certify revoke stateOf takeUp ship farRead farRead"};
 
     /** After which less is let, so that a run with many of these stays shallow. */
     private static final List<String> HARSH = List.of("seal", "clear", "revokeToken", "mount", "retire", "merge", "setQuota", "setSink", "rule", "setPolicies");
@@ -90,6 +98,15 @@ public final class ModelTest {
         return kinds;
     }
 
+    private static Map<String, int[]> ends(String... lines) {
+        Map<String, int[]> ends = new HashMap<>();
+        for (String line : lines) {
+            String[] words = line.split(" ");
+            ends.put(words[0], new int[] {Integer.parseInt(words[1]), Integer.parseInt(words[2])});
+        }
+        return ends;
+    }
+
     private void run(Map<String, Integer> answers) {
         begin();
         List<String> all = new ArrayList<>(KINDS.keySet());
@@ -118,6 +135,7 @@ public final class ModelTest {
         both("mount", 0, 0, 0);
         both("mount", 1, 1, random.nextInt(3));
         both("mount", 2, 2, 0);
+        both("mount", 3, 0, 0);
         both("rule", 0, 8, 0, 0, 15, leaning[1].equals("wrap") ? random.nextInt(3) : 0);
         both("rule", 1, 6, 6, 8, 1 + random.nextInt(15), random.nextInt(3));
         both("setPolicies", 0, 0, 1);
@@ -163,10 +181,10 @@ public final class ModelTest {
             arguments[0] = askers.get(which);
             arguments[2] = which;
         }
-        if (kinds.length > 0 && random.nextInt(20) == 0) {
+        if (kinds.length > 0 && random.nextInt(14) == 0) {
             int which = random.nextInt(kinds.length);
             if (arguments[which] instanceof Integer) {
-                arguments[which] = EDGES[random.nextInt(EDGES.length)];
+                arguments[which] = edge(kinds[which]);
             }
         }
         return arguments;
@@ -174,13 +192,22 @@ public final class ModelTest {
 
     private static final Object NOTHING = 0;
 
+    private int edge(String kind) {
+        int[] ends = ENDS.get(kind);
+        if (ends == null || random.nextInt(3) == 0) {
+            return EDGES[random.nextInt(EDGES.length)];
+        }
+        int end = ends[random.nextInt(2)];
+        return random.nextBoolean() ? end : end + (end == ends[0] ? -1 : 1);
+    }
+
     /** Mostly one at which the engine is for the call. */
     private int path(String name) {
-        int first = name.equals("issue") ? 1 : name.equals("certify") ? 2 : 0;
+        int first = name.equals("issue") ? 1 : name.equals("certify") ? 2 : random.nextInt(4) == 0 ? 3 : 0;
         if (random.nextInt(12) == 0 || name.equals("may")) {
             first = random.nextInt(6);
         }
-        return 36 * first + 6 * random.nextInt(2) + random.nextInt(random.nextInt(4) == 0 ? 6 : 2);
+        return 36 * first + 6 * random.nextInt(random.nextInt(6) == 0 ? 6 : 2) + random.nextInt(random.nextInt(4) == 0 ? 6 : 2);
     }
 
     /** One that mostly fits, and may lean on the argument ahead of it. */
@@ -225,7 +252,7 @@ public final class ModelTest {
     private int drawnOfMany(String kind, Object ahead) {
         switch (kind) {
             case "first":
-                return random.nextInt(3);
+                return random.nextInt(4);
             case "secondOrNone":
                 return random.nextInt(3) - 1;
             case "policy":
@@ -263,10 +290,11 @@ public final class ModelTest {
     private int drawnByMade(String kind, Object ahead) {
         switch (kind) {
             case "number":
-                return random.nextInt(10000);
+                return random.nextInt(4) == 0 ? 0 : random.nextInt(10000);
             case "expected":
                 return random.nextInt(3) == 0 ? random.nextInt(6) : -1;
             case "hours":
+            case "long":
                 return 1 + random.nextInt(random.nextBoolean() ? 8 : 50);
             case "most":
                 return Math.max(1, (Integer) ahead) + random.nextInt(30);
@@ -275,7 +303,7 @@ public final class ModelTest {
             case "salt":
                 return 1 + random.nextInt(1000);
             case "time":
-                return 1 + random.nextInt(random.nextInt(8) == 0 ? 20 : 2);
+                return 1 + random.nextInt(random.nextInt(8) == 0 ? 20 : random.nextInt(4) == 0 ? 6 : 2);
             case "token":
                 return one("token");
             case "tokenOrNone":
