@@ -92,6 +92,8 @@ public final class RandomRunsTest {
 
     private static void openAgain(SealwrightVault... vaults) {
         for (SealwrightVault vault : vaults) {
+            // What was drawn and given before would be in the way.
+            vault.seal();
             for (int share = 1; share <= 6 && !vault.isOpen(); share++) {
                 vault.give(share, vault.share(share));
             }
